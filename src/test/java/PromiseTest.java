@@ -94,8 +94,8 @@ public final class PromiseTest {
 
     private static void putMergesByLength() {
         TreeGossip x = new TreeGossip();
-        Check.equal("no bytes", x.put(1, 255, 5, -1, 0), true);
-        Check.equal("no bytes again, of another long", x.put(1, 255, 5, 7, 0), false);
+        Check.equal("no bytes", x.put(1, 255, 5, 7, 0), true);
+        Check.equal("no bytes again, of another long", x.put(1, 255, 5, -1, 0), false);
         for (int length = 1; length <= 8; length++) {
             Check.equal("longer, " + length, x.put(1, 255, 5, 0, length), true);
             Check.equal("shorter, " + length, x.put(1, 255, 5, -1, length - 1), false);

@@ -3,14 +3,20 @@ import java.util.Objects;
 /** Counts and prints the answers that are not as due. */
 final class Check {
     private static int wrong = 0;
+    private static String test = "";
 
     private Check() {
+    }
+
+    /** What is checked from here on belongs to this test. */
+    static void begin(String name) {
+        test = name + ": ";
     }
 
     static void equal(String what, Object got, Object want) {
         if (!Objects.equals(got, want)) {
             wrong++;
-            System.out.println(what + " answered " + got + ", due is " + want);
+            System.out.println(test + what + " answered " + got + ", due is " + want);
         }
     }
 

@@ -30,6 +30,7 @@ public final class FaceTest {
         Check.equal("constructors", Arrays.toString(face.getDeclaredConstructors()), "[public TreeGossip()]");
         checkMethods(face);
         checkFields(face);
+        Check.equal("NONE", TreeGossip.NONE, -1);
         Check.end();
     }
 

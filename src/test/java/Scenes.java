@@ -8,7 +8,6 @@ final class Scenes {
     static final int LIST = 1;
     static final int GIVE = 2;
     static final int BACK = 3;
-    static final int ROOM = 100;
 
     static final long EMPTY_LEAF = 5903417615762616944L;
     static final long EMPTY_ROOT = -6323066845927900339L;
